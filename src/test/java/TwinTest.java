@@ -1,0 +1,69 @@
+/** Promise 10. */
+public final class TwinTest {
+    public static void main(String[] args) {
+        Check check = new Check();
+        wrongInputs(check);
+        everyKindIsDoubled(check);
+        acceptIsDoubledWhole(check);
+        check.end();
+    }
+
+    private static void wrongInputs(Check check) {
+        IssueHouse x = new IssueHouse();
+        check.outOfBounds("twin(0)", () -> x.twin(0));
+        x.start(0);
+        check.outOfBounds("twin(-1)", () -> x.twin(-1));
+        check.outOfBounds("twin(5)", () -> x.twin(5));
+        Play.fill(x, 4, 89);
+        x.twin(88);
+        check.due("letters()", x.letters(), 90);
+        check.badState("twin(0) with 90", () -> x.twin(0));
+        check.badState("twin(89) with 90", () -> x.twin(89));
+        check.outOfBounds("twin(90) with 90", () -> x.twin(90));
+        check.due("letters()", x.letters(), 90);
+        check.due("letter(89, 2)", x.letter(89, 2), 4);
+    }
+
+    private static void everyKindIsDoubled(Check check) {
+        IssueHouse x = new IssueHouse();
+        x.start(1);
+        isDoubled(check, x, 3, Play.PREPARE);
+        x.deliver(0);
+        isDoubled(check, x, 5, Play.PROMISE);
+        x.twin(0);
+        x.deliver(0);
+        x.deliver(x.letters() - 2);
+        isDoubled(check, x, x.letters() - 1, Play.NO);
+        IssueHouse y = new IssueHouse();
+        y.start(1);
+        Play.promises(y, 0, 1, 2);
+        isDoubled(check, y, 4, Play.ACCEPT);
+        y.deliver(4);
+        isDoubled(check, y, 7, Play.YES);
+    }
+
+    private static void isDoubled(Check check, IssueHouse x, int k, int kind) {
+        int last = x.letters();
+        x.twin(k);
+        check.due("letters()", x.letters(), last + 1);
+        check.due("kind", x.letter(last, 0), kind);
+        for (int what = 0; what < 6; what++) {
+            check.due("letter(" + last + ", " + what + ")", x.letter(last, what), x.letter(k, what));
+        }
+    }
+
+    private static void acceptIsDoubledWhole(Check check) {
+        IssueHouse x = new IssueHouse();
+        x.clock(0, 1000);
+        x.start(0);
+        Play.promises(x, 0, 1, 2);
+        x.twin(3);
+        Play.clearBut(x, 1);
+        x.deliver(0);
+        check.due("kind of the answer", x.letter(0, 0), Play.YES);
+        check.due("node of the answer", x.letter(0, 2), 1);
+        check.due("seat(0, 0)", x.seat(0, 0), 0);
+        check.due("seat(0, 1)", x.seat(0, 1), 1);
+        check.due("seat(0, 2)", x.seat(0, 2), 60999);
+    }
+}
