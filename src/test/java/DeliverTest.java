@@ -11,7 +11,9 @@ public final class DeliverTest {
         promisesOfAnotherBallotAreLost(check);
         promiseTellsRowsAsTheyWere(check);
         greatestBallotOfTheThreeCounts(check);
+        thirdPromiseTellsOfAHolder(check);
         earlierPromisesAreForgotten(check);
+        earlierCountsAreForgotten(check);
         yesIsCountedOncePerNode(check);
         yesBeforeAcceptingIsLost(check);
         noFailsWhatever(check);
@@ -195,6 +197,28 @@ public final class DeliverTest {
         y.clock(0, 0);
         Play.startWith(y, 0, 0, 1, 4);
         check.due("span when the third PROMISE has the greatest", y.issuer(0, 4), 120999);
+    }
+
+    private static void thirdPromiseTellsOfAHolder(Check check) {
+        IssueHouse x = new IssueHouse();
+        Play.startInVain(x, 0, 0, 1, 2, 4);
+        Play.startWith(x, 1, 0, 1, 4);
+        check.due("seat, seat 0 being held at node 4", x.issuer(1, 2), 1);
+    }
+
+    private static void earlierCountsAreForgotten(Check check) {
+        IssueHouse x = new IssueHouse();
+        x.start(0);
+        x.deliver(0);
+        x.deliver(0);
+        x.deliver(3);
+        x.deliver(3);
+        x.crash(0);
+        Play.clear(x);
+        x.start(0);
+        x.deliver(2);
+        check.due("the first PROMISE of a new attempt", x.deliver(4), 0);
+        check.due("issuer(0, 1)", x.issuer(0, 1), 1);
     }
 
     private static void earlierPromisesAreForgotten(Check check) {

@@ -85,7 +85,7 @@ public final class ModelTest {
             disturb();
         } else if (chance < 40) {
             begin();
-        } else if (crowded && chance < 70 && model.letters() < 91) {
+        } else if (crowded && chance < 70) {
             twin();
         } else if (!orderly && chance < 50) {
             loseOrTwin();

@@ -24,8 +24,12 @@ final class Play {
     }
 
     static void prolong(IssueHouse x, int issuer) {
+        prolongWith(x, issuer, 0, 1, 2);
+    }
+
+    static void prolongWith(IssueHouse x, int issuer, int a, int b, int c) {
         x.prolong(issuer);
-        carry(x, 0, 1, 2);
+        carry(x, a, b, c);
     }
 
     /** A START that just the nodes a < b < c hear of; what else was sent is lost. */

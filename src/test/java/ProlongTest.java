@@ -6,6 +6,7 @@ public final class ProlongTest {
         refusedWithoutRoom(check);
         sendsPrepare(check);
         keepsSeatAndTerm(check);
+        keepsSeatThoughItIsTheHolderOfALowerOne(check);
         givesMeanwhile(check);
         beginsAtTheClockIfThatIsLater(check);
         staysReadyWhenItFails(check);
@@ -62,6 +63,18 @@ public final class ProlongTest {
         check.due("seat(1, 2)", x.seat(1, 2), 120000);
         check.due("next(1)", x.next(1), Play.number(60001, 1, 0));
         check.due("issuer(0, 4)", x.issuer(0, 4), 60000);
+    }
+
+    private static void keepsSeatThoughItIsTheHolderOfALowerOne(Check check) {
+        IssueHouse x = new IssueHouse();
+        Play.startInVain(x, 0, 0, 1, 2, 0);
+        Play.startInVain(x, 1, 1, 2, 3, 1);
+        Play.startWith(x, 0, 1, 2, 3);
+        check.due("issuer(0, 2), seat 0 being held by issuer 1", x.issuer(0, 2), 1);
+        Play.prolongWith(x, 0, 0, 2, 3);
+        check.due("issuer(0, 2), seat 0 being its own at node 0", x.issuer(0, 2), 1);
+        check.due("issuer(0, 3)", x.issuer(0, 3), 1);
+        check.due("issuer(0, 4)", x.issuer(0, 4), 120000);
     }
 
     private static void givesMeanwhile(Check check) {

@@ -5,6 +5,7 @@ public final class TwinTest {
         wrongInputs(check);
         everyKindIsDoubled(check);
         acceptIsDoubledWhole(check);
+        promiseIsDoubledWhole(check);
         check.end();
     }
 
@@ -50,6 +51,23 @@ public final class TwinTest {
         for (int what = 0; what < 6; what++) {
             check.due("letter(" + last + ", " + what + ")", x.letter(last, what), x.letter(k, what));
         }
+    }
+
+    private static void promiseIsDoubledWhole(Check check) {
+        IssueHouse x = Play.readyAt(1000);
+        x.start(1);
+        for (int n = 0; n < 3; n++) {
+            x.deliver(0);
+        }
+        for (int n = 0; n < 3; n++) {
+            x.twin(2 + n);
+        }
+        Play.clearBut(x, 3);
+        for (int n = 0; n < 3; n++) {
+            x.deliver(0);
+        }
+        check.due("letters()", x.letters(), 5);
+        check.due("the seat, seat 0 being held", x.letter(0, 4), 1);
     }
 
     private static void acceptIsDoubledWhole(Check check) {
