@@ -8,6 +8,24 @@ final class Check {
         }
     }
 
+    void letter(IssueHouse x, int k, long... due) {
+        for (int what = 0; what < due.length; what++) {
+            due("letter(" + k + ", " + what + ")", x.letter(k, what), due[what]);
+        }
+    }
+
+    void issuer(IssueHouse x, int i, long... due) {
+        for (int what = 0; what < due.length; what++) {
+            due("issuer(" + i + ", " + what + ")", x.issuer(i, what), due[what]);
+        }
+    }
+
+    void seat(IssueHouse x, int s, long... due) {
+        for (int what = 0; what < due.length; what++) {
+            due("seat(" + s + ", " + what + ")", x.seat(s, what), due[what]);
+        }
+    }
+
     void outOfBounds(String call, Runnable run) {
         fails(call, IndexOutOfBoundsException.class, run);
     }

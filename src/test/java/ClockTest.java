@@ -7,6 +7,9 @@ public final class ClockTest {
         jumps(check);
         refusedTimeChangesNothing(check);
         countsWhenTheThirdPromiseComes(check);
+        everyIssuerTakesTheFirstAndTheLastTime(check);
+        theLastTimeIsTheClock(check);
+        theFirstTimeIsTheClock(check);
         check.end();
     }
 
@@ -70,5 +73,40 @@ public final class ClockTest {
         x.deliver(4);
         check.due("the span's last time", x.issuer(0, 4), 777 + 59999);
         check.due("next(0)", x.next(0), Play.number(999, 0, 0));
+    }
+
+    /** "ISSUERS are 0 .. 7", "a TIME is 0 .. 2^41 - 1": both ends are taken, what lies beside them is not. */
+    private static void everyIssuerTakesTheFirstAndTheLastTime(Check check) {
+        IssueHouse x = new IssueHouse();
+        for (int i = 0; i < 8; i++) {
+            int at = i;
+            x.clock(at, Play.LATEST);
+            check.badArgument("clock(" + at + ", 2^41)", () -> x.clock(at, Play.LATEST + 1));
+            x.clock(at, 0);
+            check.badArgument("clock(" + at + ", -1)", () -> x.clock(at, -1));
+        }
+    }
+
+    /** "An issuer's clock becomes t", for the last of all times. */
+    private static void theLastTimeIsTheClock(Check check) {
+        IssueHouse x = Play.readyAt(Play.LATEST - 59999);
+        x.clock(0, Play.LATEST);
+        x.next(0);
+        check.due("issuer(0, 5)", x.issuer(0, 5), Play.LATEST);
+        IssueHouse y = Play.readyAt(Play.LATEST - 59999);
+        y.clock(0, Play.LATEST - 1);
+        check.badArgument("clock(0, 2^41)", () -> y.clock(0, Play.LATEST + 1));
+        y.next(0);
+        check.due("issuer(0, 5) behind a refused time", y.issuer(0, 5), Play.LATEST - 1);
+    }
+
+    /** "An issuer's clock becomes t", for 0: a number of time 5000 is given then, and one of 5001 is not. */
+    private static void theFirstTimeIsTheClock(Check check) {
+        IssueHouse x = Play.readyAt(5000);
+        x.clock(0, 0);
+        check.due("next(0), 5000 ahead", x.next(0), Play.number(5000, 0, 0));
+        IssueHouse y = Play.readyAt(5001);
+        y.clock(0, 0);
+        check.due("next(0), 5001 ahead", y.next(0), 0);
     }
 }

@@ -1,27 +1,18 @@
-/** Promise 8, with what nodes and issuers do with each letter. */
+/** Promise 8. What the letters do where they come is in AtNodeTest and AtIssuerTest. */
 public final class DeliverTest {
     public static void main(String[] args) {
         Check check = new Check();
         wrongInputs(check);
         takesTheLetterAway(check);
-        nodeAnswersPrepare(check);
-        nodeAnswersAccept(check);
-        acceptedWithoutPrepare(check);
-        promisesAreCountedOncePerNode(check);
-        promisesOfAnotherBallotAreLost(check);
-        promiseTellsRowsAsTheyWere(check);
-        greatestBallotOfTheThreeCounts(check);
-        thirdPromiseTellsOfAHolder(check);
-        earlierPromisesAreForgotten(check);
-        earlierCountsAreForgotten(check);
-        yesIsCountedOncePerNode(check);
-        yesBeforeAcceptingIsLost(check);
-        noFailsWhatever(check);
-        noWithoutAttemptIsLost(check);
-        noBehindTheEndIsLost(check);
         acceptNeedsRoom(check);
         refusedPromiseIsNotCounted(check);
         failureNeedsNoRoom(check);
+        anyLetterOfAFullRow(check);
+        theOnlyLetter(check);
+        roomWhileProlonging(check);
+        roomIsAskedForByAcceptAlone(check);
+        theRefusedLetterComesLater(check);
+        noSeatNeedsNoRoom(check);
         check.end();
     }
 
@@ -47,316 +38,6 @@ public final class DeliverTest {
             check.due("letter(" + k + ", 2)", x.letter(k, 2), nodes[k]);
         }
         check.due("letter(4, 0)", x.letter(4, 0), Play.PROMISE);
-    }
-
-    private static void nodeAnswersPrepare(Check check) {
-        IssueHouse x = new IssueHouse();
-        x.start(3);
-        x.start(2);
-        x.start(4);
-        x.deliver(0);
-        letterIs(check, x, 14, Play.PROMISE, 3, 0, 11, -1);
-        x.deliver(4);
-        letterIs(check, x, 14, Play.NO, 2, 0, 10, 11);
-        x.twin(8);
-        check.due("letter(15, 1)", x.letter(15, 1), 4);
-        x.deliver(8);
-        letterIs(check, x, 15, Play.PROMISE, 4, 0, 12, -1);
-        x.deliver(14);
-        letterIs(check, x, 15, Play.NO, 4, 0, 12, 12);
-    }
-
-    private static void letterIs(Check check, IssueHouse x, int k, int kind, int issuer, int node, int ballot,
-            int promised) {
-        int[] due = {kind, issuer, node, ballot, -1, promised};
-        for (int what = 0; what < 6; what++) {
-            check.due("letter(" + k + ", " + what + ")", x.letter(k, what), due[what]);
-        }
-    }
-
-    private static void nodeAnswersAccept(Check check) {
-        IssueHouse x = new IssueHouse();
-        x.start(0);
-        Play.promises(x, 0, 1, 2);
-        check.due("letters()", x.letters(), 7);
-        x.start(1);
-        x.deliver(7);
-        x.deliver(2);
-        check.due("answer to ACCEPT below the promised number", x.letter(11, 0), Play.NO);
-        check.due("its ballot", x.letter(11, 3), 8);
-        check.due("its promised number", x.letter(11, 5), 9);
-        check.due("seat(0, 0), nothing being accepted", x.seat(0, 0), -1);
-        check.due("deliver of ACCEPT to node 1", x.deliver(2), 1);
-        check.due("answer to ACCEPT with the promised number", x.letter(11, 0), Play.YES);
-        check.due("its node", x.letter(11, 2), 1);
-        check.due("seat(0, 0)", x.seat(0, 0), 0);
-        check.due("seat(0, 1)", x.seat(0, 1), 1);
-        check.due("seat(0, 2)", x.seat(0, 2), 60000);
-    }
-
-    private static void acceptedWithoutPrepare(Check check) {
-        IssueHouse x = new IssueHouse();
-        x.start(1);
-        Play.promises(x, 0, 1, 2);
-        check.due("deliver of ACCEPT to node 4", x.deliver(6), 1);
-        letterIs(check, x, 6, Play.YES, 1, 4, 9, -1);
-        check.due("deliver of the late PREPARE to node 4", x.deliver(1), 1);
-        letterIs(check, x, 6, Play.NO, 1, 4, 9, 9);
-        x.start(0);
-        check.due("deliver of a lower PREPARE to node 4", x.deliver(11), 1);
-        letterIs(check, x, 11, Play.NO, 0, 4, 8, 9);
-    }
-
-    private static void promisesAreCountedOncePerNode(Check check) {
-        IssueHouse x = new IssueHouse();
-        x.start(0);
-        x.deliver(0);
-        x.deliver(0);
-        x.deliver(0);
-        x.twin(2);
-        x.twin(2);
-        x.twin(3);
-        check.due("node 0", x.deliver(2), 0);
-        check.due("node 0 again", x.deliver(4), 0);
-        check.due("node 0 once more", x.deliver(4), 0);
-        check.due("node 1", x.deliver(2), 0);
-        check.due("node 1 again", x.deliver(3), 0);
-        check.due("issuer(0, 1)", x.issuer(0, 1), 1);
-        check.due("node 2", x.deliver(2), 5);
-        check.due("issuer(0, 1)", x.issuer(0, 1), 2);
-        for (int n = 0; n < 5; n++) {
-            check.due("kind", x.letter(2 + n, 0), Play.ACCEPT);
-            check.due("issuer", x.letter(2 + n, 1), 0);
-            check.due("node", x.letter(2 + n, 2), n);
-            check.due("ballot", x.letter(2 + n, 3), 8);
-            check.due("seat", x.letter(2 + n, 4), 0);
-            check.due("promised", x.letter(2 + n, 5), -1);
-        }
-        x.deliver(0);
-        check.due("a fourth PROMISE", x.deliver(6), 0);
-    }
-
-    private static void promisesOfAnotherBallotAreLost(Check check) {
-        IssueHouse x = new IssueHouse();
-        x.start(0);
-        for (int n = 0; n < 5; n++) {
-            x.deliver(0);
-        }
-        x.crash(0);
-        check.due("PROMISE to one at no attempt", x.deliver(0), 0);
-        x.start(0);
-        for (int n = 0; n < 4; n++) {
-            check.due("PROMISE with an old ballot", x.deliver(0), 0);
-        }
-        check.due("issuer(0, 1)", x.issuer(0, 1), 1);
-        check.due("letters()", x.letters(), 5);
-    }
-
-    private static void promiseTellsRowsAsTheyWere(Check check) {
-        IssueHouse x = new IssueHouse();
-        x.start(1);
-        for (int n = 0; n < 5; n++) {
-            x.deliver(0);
-        }
-        x.start(2);
-        for (int n = 0; n < 5; n++) {
-            x.deliver(5);
-        }
-        for (int n = 0; n < 3; n++) {
-            x.deliver(5);
-        }
-        for (int n = 0; n < 5; n++) {
-            x.deliver(7);
-        }
-        check.due("seat(0, 0)", x.seat(0, 0), 2);
-        x.twin(0);
-        x.deliver(x.letters() - 1);
-        x.deliver(1);
-        check.due("the late third PROMISE", x.deliver(1), 5);
-        check.due("the seat that was free then", x.letter(x.letters() - 1, 4), 0);
-        x.deliver(x.letters() - 1);
-        check.due("answer to its ACCEPT", x.letter(x.letters() - 1, 0), Play.NO);
-        check.due("seat(0, 0)", x.seat(0, 0), 2);
-    }
-
-    private static void greatestBallotOfTheThreeCounts(Check check) {
-        IssueHouse x = new IssueHouse();
-        x.clock(0, 5000);
-        Play.startInVain(x, 0, 0, 1, 2, 0);
-        x.clock(0, 1000);
-        Play.startInVain(x, 0, 1, 2, 3, 1);
-        x.clock(0, 0);
-        Play.startWith(x, 0, 0, 1, 4);
-        check.due("term behind the row with ballot 16", x.issuer(0, 3), 2);
-        check.due("span behind the row with ballot 16", x.issuer(0, 4), 120999);
-        IssueHouse y = new IssueHouse();
-        y.clock(0, 5000);
-        Play.startInVain(y, 0, 0, 1, 2, 0);
-        y.clock(0, 1000);
-        Play.startInVain(y, 0, 1, 2, 3, 4);
-        y.clock(0, 0);
-        Play.startWith(y, 0, 0, 1, 4);
-        check.due("span when the third PROMISE has the greatest", y.issuer(0, 4), 120999);
-    }
-
-    private static void thirdPromiseTellsOfAHolder(Check check) {
-        IssueHouse x = new IssueHouse();
-        Play.startInVain(x, 0, 0, 1, 2, 4);
-        Play.startWith(x, 1, 0, 1, 4);
-        check.due("seat, seat 0 being held at node 4", x.issuer(1, 2), 1);
-    }
-
-    private static void earlierCountsAreForgotten(Check check) {
-        IssueHouse x = new IssueHouse();
-        x.start(0);
-        x.deliver(0);
-        x.deliver(0);
-        x.deliver(3);
-        x.deliver(3);
-        x.crash(0);
-        Play.clear(x);
-        x.start(0);
-        x.deliver(2);
-        check.due("the first PROMISE of a new attempt", x.deliver(4), 0);
-        check.due("issuer(0, 1)", x.issuer(0, 1), 1);
-    }
-
-    private static void earlierPromisesAreForgotten(Check check) {
-        IssueHouse x = new IssueHouse();
-        x.clock(0, 9000);
-        Play.startInVain(x, 0, 0, 1, 2, 0);
-        x.start(0);
-        x.deliver(0);
-        x.deliver(4);
-        x.crash(0);
-        Play.clear(x);
-        x.clock(0, 0);
-        Play.startWith(x, 0, 1, 2, 3);
-        check.due("term, node 0 not being heard", x.issuer(0, 3), 1);
-        check.due("span, node 0 not being heard", x.issuer(0, 4), 60000);
-    }
-
-    private static void yesIsCountedOncePerNode(Check check) {
-        IssueHouse x = new IssueHouse();
-        x.clock(0, 50);
-        x.start(0);
-        Play.promises(x, 0, 1, 2);
-        Play.accept(x, 0, 3, 4);
-        x.twin(4);
-        x.twin(4);
-        check.due("node 0", x.deliver(4), 0);
-        check.due("node 0 again", x.deliver(6), 0);
-        check.due("node 0 once more", x.deliver(6), 0);
-        check.due("node 3", x.deliver(4), 0);
-        check.due("issuer(0, 0)", x.issuer(0, 0), 0);
-        check.due("issuer(0, 1)", x.issuer(0, 1), 2);
-        check.due("node 4", x.deliver(4), 0);
-        check.due("issuer(0, 0)", x.issuer(0, 0), 1);
-        check.due("issuer(0, 1)", x.issuer(0, 1), 0);
-        check.due("issuer(0, 2)", x.issuer(0, 2), 0);
-        check.due("issuer(0, 3)", x.issuer(0, 3), 1);
-        check.due("issuer(0, 4)", x.issuer(0, 4), 60049);
-    }
-
-    private static void yesBeforeAcceptingIsLost(Check check) {
-        IssueHouse x = new IssueHouse();
-        x.start(0);
-        Play.promises(x, 0, 1, 2);
-        Play.accept(x, 0, 1, 2);
-        x.crash(0);
-        x.start(0);
-        for (int n = 0; n < 3; n++) {
-            check.due("YES with an old ballot", x.deliver(4), 0);
-        }
-        check.due("issuer(0, 0)", x.issuer(0, 0), 0);
-        check.due("issuer(0, 1)", x.issuer(0, 1), 1);
-    }
-
-    private static void noFailsWhatever(Check check) {
-        IssueHouse x = new IssueHouse();
-        x.start(0);
-        x.twin(0);
-        x.deliver(0);
-        x.deliver(4);
-        check.due("deliver of NO while preparing", x.deliver(5), 0);
-        check.due("issuer(0, 1)", x.issuer(0, 1), 0);
-        check.due("issuer(0, 6)", x.issuer(0, 6), 1);
-        Play.clear(x);
-        x.start(0);
-        check.due("ballot behind NO with its own number", x.letter(0, 3), 16);
-        noFailsWhileAccepting(check);
-    }
-
-    private static void noFailsWhileAccepting(Check check) {
-        IssueHouse x = new IssueHouse();
-        x.start(0);
-        Play.promises(x, 0, 1, 2);
-        x.twin(0);
-        x.deliver(0);
-        x.deliver(6);
-        check.due("letter(7, 0)", x.letter(7, 0), Play.NO);
-        check.due("issuer(0, 1)", x.issuer(0, 1), 2);
-        check.due("deliver of NO while accepting", x.deliver(7), 0);
-        check.due("issuer(0, 1)", x.issuer(0, 1), 0);
-        check.due("issuer(0, 6)", x.issuer(0, 6), 1);
-        for (int n = 0; n < 3; n++) {
-            x.deliver(1);
-        }
-        for (int n = 0; n < 3; n++) {
-            check.due("late YES", x.letter(x.letters() - 1, 0), Play.YES);
-            x.deliver(x.letters() - 1);
-        }
-        check.due("issuer(0, 0)", x.issuer(0, 0), 0);
-    }
-
-    private static void noBehindTheEndIsLost(Check check) {
-        IssueHouse x = new IssueHouse();
-        x.start(0);
-        x.twin(0);
-        x.deliver(0);
-        x.deliver(4);
-        x.deliver(0);
-        x.deliver(0);
-        x.deliver(2);
-        x.deliver(3);
-        x.deliver(3);
-        for (int n = 0; n < 3; n++) {
-            x.deliver(3);
-        }
-        for (int n = 0; n < 3; n++) {
-            x.deliver(5);
-        }
-        check.due("issuer(0, 0)", x.issuer(0, 0), 1);
-        check.due("letter(2, 0)", x.letter(2, 0), Play.NO);
-        check.due("deliver of NO", x.deliver(2), 0);
-        check.due("issuer(0, 0)", x.issuer(0, 0), 1);
-        check.due("issuer(0, 6)", x.issuer(0, 6), 0);
-    }
-
-    private static void noWithoutAttemptIsLost(Check check) {
-        IssueHouse x = new IssueHouse();
-        x.start(0);
-        x.twin(0);
-        x.twin(0);
-        x.deliver(0);
-        x.deliver(4);
-        x.deliver(4);
-        check.due("letter(5, 0)", x.letter(5, 0), Play.NO);
-        check.due("letter(6, 0)", x.letter(6, 0), Play.NO);
-        x.deliver(5);
-        check.due("deliver of the second NO", x.deliver(5), 0);
-        check.due("issuer(0, 6)", x.issuer(0, 6), 1);
-        Play.clear(x);
-        x.start(0);
-        x.twin(0);
-        x.deliver(0);
-        x.deliver(4);
-        check.due("letter(5, 0)", x.letter(5, 0), Play.NO);
-        x.crash(0);
-        x.start(0);
-        check.due("deliver of NO with an old ballot", x.deliver(5), 0);
-        check.due("issuer(0, 1)", x.issuer(0, 1), 1);
-        check.due("issuer(0, 6)", x.issuer(0, 6), 1);
     }
 
     /** Two PREPARE, three PROMISE, of which two are delivered, and others up to so many letters. */
@@ -430,5 +111,101 @@ public final class DeliverTest {
         IssueHouse y = beforeTheThird(90);
         check.due("deliver(0) of PREPARE with 90", y.deliver(0), 1);
         check.due("letters()", y.letters(), 90);
+    }
+
+    /** "IndexOutOfBoundsException, when there is none such": of 90 letters the first and the last are there. */
+    private static void anyLetterOfAFullRow(Check check) {
+        IssueHouse x = new IssueHouse();
+        check.outOfBounds("deliver(-1) without letters", () -> x.deliver(-1));
+        check.outOfBounds("deliver(least) without letters", () -> x.deliver(Integer.MIN_VALUE));
+        x.start(0);
+        Play.fill(x, 4, 90);
+        check.outOfBounds("deliver(-1) with 90", () -> x.deliver(-1));
+        check.outOfBounds("deliver(90) with 90", () -> x.deliver(90));
+        check.outOfBounds("deliver(91) with 90", () -> x.deliver(91));
+        check.due("deliver(0) with 90", x.deliver(0), 1);
+        check.due("letters()", x.letters(), 90);
+        check.letter(x, 89, Play.PROMISE, 0, 0, 8, -1, -1);
+        check.due("deliver(89) with 90", x.deliver(89), 0);
+        check.due("letters()", x.letters(), 89);
+        check.outOfBounds("deliver(89) with 89", () -> x.deliver(89));
+    }
+
+    private static void theOnlyLetter(Check check) {
+        IssueHouse x = new IssueHouse();
+        x.start(0);
+        Play.clearBut(x, 1);
+        check.outOfBounds("deliver(1) with one", () -> x.deliver(1));
+        check.due("deliver(0) of PREPARE", x.deliver(0), 1);
+        check.due("deliver(0) of PROMISE", x.deliver(0), 0);
+        check.due("letters()", x.letters(), 0);
+        check.outOfBounds("deliver(0) with none", () -> x.deliver(0));
+    }
+
+    /** "when ACCEPT would be sent by it and more than 90 letters were there then", of one that prolongs. */
+    private static void roomWhileProlonging(Check check) {
+        for (int letters = 85; letters <= 90; letters++) {
+            IssueHouse x = new IssueHouse();
+            Play.prolonging(x);
+            Play.fill(x, 0, letters);
+            if (letters <= 86) {
+                check.due("deliver(2) with " + letters, x.deliver(2), 5);
+                check.due("letters()", x.letters(), letters + 4);
+                check.due("issuer(0, 1)", x.issuer(0, 1), 2);
+                continue;
+            }
+            check.badState("deliver(2) with " + letters, () -> x.deliver(2));
+            check.due("letters()", x.letters(), letters);
+            check.letter(x, 2, Play.PROMISE, 0, 2, 16, -1, -1);
+            check.issuer(x, 0, 1, 1, 0, 1, 60999, 1000, 0, 10);
+        }
+    }
+
+    /** Every other letter is delivered with 90 letters too: what it sends takes its own place at most. */
+    private static void roomIsAskedForByAcceptAlone(Check check) {
+        int[] sent = {1, 0, 0, 1, 0, -1, 0, 0};
+        for (int k = 0; k < Play.BUSY_LETTERS; k++) {
+            if (k == Play.BUSY_THIRD_PROMISE) {
+                continue;
+            }
+            IssueHouse x = new IssueHouse();
+            Play.crowded(x, 90);
+            check.due("deliver(" + k + ") with 90", x.deliver(k), sent[k]);
+            check.due("letters()", x.letters(), 89 + sent[k]);
+        }
+        IssueHouse y = new IssueHouse();
+        y.start(0);
+        y.deliver(0);
+        y.deliver(0);
+        Play.fill(y, 0, 90);
+        check.due("deliver(3) of the first PROMISE with 90", y.deliver(3), 0);
+        y.twin(0);
+        check.due("deliver(3) of the second PROMISE with 90", y.deliver(3), 0);
+        check.due("issuer(0, 1)", y.issuer(0, 1), 1);
+    }
+
+    /** "(the letter stays)": it is delivered as soon as there is room. */
+    private static void theRefusedLetterComesLater(Check check) {
+        IssueHouse x = beforeTheThird(90);
+        for (int letters = 90; letters > 86; letters--) {
+            check.badState("deliver(2) with " + letters, () -> x.deliver(2));
+            x.lose(letters - 1);
+        }
+        check.due("deliver(2) with 86", x.deliver(2), 5);
+        check.due("letters()", x.letters(), 90);
+        check.issuer(x, 0, 0, 2);
+        for (int n = 0; n < 5; n++) {
+            check.letter(x, 85 + n, Play.ACCEPT, 0, n, 8, 0, -1);
+        }
+    }
+
+    /** "Without a seat ... the attempt FAILS": no ACCEPT would be sent, so none is refused. */
+    private static void noSeatNeedsNoRoom(Check check) {
+        IssueHouse x = new IssueHouse();
+        Play.withoutASeatFor7(x);
+        Play.fill(x, 0, 90);
+        check.due("deliver(2) of the third PROMISE", x.deliver(2), 0);
+        check.due("letters()", x.letters(), 89);
+        check.issuer(x, 7, 0, 0, -1, -1, -1, -1, 1, 0);
     }
 }

@@ -8,17 +8,32 @@ import java.util.TreeSet;
 
 /** The public face of the document, and no member beside it that others can see. */
 public final class FaceTest {
+    private static final String INDEX = " IndexOutOfBoundsException";
+    private static final String ARGUMENT = " IllegalArgumentException";
+    private static final String STATE = " IllegalStateException";
     private static final String[] FACE = {
-        "batch(int,int):long", "clock(int,long):void", "crash(int):void", "deliver(int):int",
-        "issuer(int,int):long", "letter(int,int):int", "letters():int", "lose(int):void",
-        "next(int):long", "node(int,boolean):void", "part(long,int):long", "prolong(int):void",
-        "seat(int,int):long", "start(int):void", "twin(int):void",
+        "batch(int,int):long" + INDEX + ARGUMENT,
+        "clock(int,long):void" + INDEX + ARGUMENT,
+        "crash(int):void" + INDEX,
+        "deliver(int):int" + INDEX + STATE,
+        "issuer(int,int):long" + INDEX,
+        "letter(int,int):int" + INDEX,
+        "letters():int",
+        "lose(int):void" + INDEX,
+        "next(int):long" + INDEX,
+        "node(int,boolean):void" + INDEX,
+        "part(long,int):long" + ARGUMENT,
+        "prolong(int):void" + INDEX + STATE,
+        "seat(int,int):long" + INDEX,
+        "start(int):void" + INDEX + STATE,
+        "twin(int):void" + INDEX + STATE,
     };
 
     public static void main(String[] args) {
         Check check = new Check();
         int modifiers = IssueHouse.class.getModifiers();
         check.due("public final", modifiers & (Modifier.PUBLIC | Modifier.FINAL), Modifier.PUBLIC | Modifier.FINAL);
+        check.due("NONE", IssueHouse.NONE, -1);
         methods(check);
         fields(check);
         constructors(check);
@@ -56,7 +71,11 @@ public final class FaceTest {
             text.append(comma).append(type.getName());
             comma = ",";
         }
-        return text.append("):").append(m.getReturnType().getName()).toString();
+        text.append("):").append(m.getReturnType().getName());
+        for (Class<?> type : m.getExceptionTypes()) {
+            text.append(' ').append(type.getSimpleName());
+        }
+        return text.toString();
     }
 
     private static void fields(Check check) {

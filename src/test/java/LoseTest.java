@@ -18,6 +18,9 @@ public final class LoseTest {
         check.due("issuer(0, 1)", x.issuer(0, 1), 1);
         fromAFullRow(check);
         nothingIsDelivered(check);
+        noSuchLetter(check);
+        theFirstTheLastAndTheOnly(check);
+        isAsIfItHadNotBeenSent(check);
         check.end();
     }
 
@@ -48,5 +51,52 @@ public final class LoseTest {
         x.deliver(2);
         check.due("the second PROMISE that came", x.deliver(2), 0);
         check.due("issuer(0, 1)", x.issuer(0, 1), 1);
+    }
+
+    /** "IndexOutOfBoundsException likewise", without letters, with some and with 90. */
+    private static void noSuchLetter(Check check) {
+        for (int many : new int[] {0, 5, 90}) {
+            IssueHouse x = new IssueHouse();
+            if (many > 0) {
+                x.start(0);
+                Play.fill(x, 0, many);
+            }
+            for (int k : new int[] {Integer.MIN_VALUE, -1, many, many + 1, Integer.MAX_VALUE}) {
+                check.outOfBounds("lose(" + k + ") with " + many, () -> x.lose(k));
+            }
+            check.due("letters()", x.letters(), many);
+        }
+    }
+
+    /** "those behind one that is taken away move up". */
+    private static void theFirstTheLastAndTheOnly(Check check) {
+        int[][] left = {{1, 2, 3, 4}, {0, 2, 3, 4}, {0, 1, 3, 4}, {0, 1, 2, 4}, {0, 1, 2, 3}};
+        for (int k = 0; k < 5; k++) {
+            IssueHouse x = new IssueHouse();
+            x.start(3);
+            x.lose(k);
+            check.due("letters() behind lose(" + k + ")", x.letters(), 4);
+            for (int j = 0; j < 4; j++) {
+                check.letter(x, j, Play.PREPARE, 3, left[k][j], 11, -1, -1);
+            }
+            check.outOfBounds("letter(4, 0)", () -> x.letter(4, 0));
+        }
+        IssueHouse y = new IssueHouse();
+        y.start(0);
+        Play.clearBut(y, 1);
+        y.lose(0);
+        check.due("letters()", y.letters(), 0);
+        check.outOfBounds("lose(0) with none", () -> y.lose(0));
+    }
+
+    /** A letter that is lost is gone with all that it would have done. */
+    private static void isAsIfItHadNotBeenSent(Check check) {
+        for (int k = 0; k < Play.BUSY_LETTERS; k++) {
+            int at = k;
+            Same.answers(check, "a twin of letter " + at + " and its loss", 0, Play::busy, Same.call(x -> {
+                x.twin(at);
+                x.lose(Play.BUSY_LETTERS);
+            }));
+        }
     }
 }

@@ -11,6 +11,11 @@ public final class ProlongTest {
         beginsAtTheClockIfThatIsLater(check);
         staysReadyWhenItFails(check);
         failsAtTheEndOfTime(check);
+        noSuchIssuer(check);
+        roomForJustFive(check);
+        behindTheMark(check);
+        everyIssuerMayProlong(check);
+        numbersHoldForProlongingToo(check);
         check.end();
     }
 
@@ -141,5 +146,84 @@ public final class ProlongTest {
         IssueHouse y = Play.readyAt(Play.LATEST - 119999);
         Play.prolong(y, 0);
         check.due("issuer(0, 4) one earlier", y.issuer(0, 4), Play.LATEST);
+    }
+
+    /** "IndexOutOfBoundsException likewise": both ends, and before all else that is wrong. */
+    private static void noSuchIssuer(Check check) {
+        IssueHouse x = Play.readyAt(0);
+        check.outOfBounds("prolong(least)", () -> x.prolong(Integer.MIN_VALUE));
+        check.outOfBounds("prolong(greatest)", () -> x.prolong(Integer.MAX_VALUE));
+        x.start(1);
+        Play.fill(x, 0, 90);
+        check.outOfBounds("prolong(-1) without room", () -> x.prolong(-1));
+        check.outOfBounds("prolong(8) without room", () -> x.prolong(8));
+    }
+
+    private static void everyIssuerMayProlong(Check check) {
+        IssueHouse x = new IssueHouse();
+        for (int i = 0; i < 8; i++) {
+            Play.start(x, i);
+        }
+        for (int i = 0; i < 8; i++) {
+            x.prolong(i);
+            check.due("issuer(" + i + ", 0)", x.issuer(i, 0), 1);
+            check.due("issuer(" + i + ", 1)", x.issuer(i, 1), 1);
+            check.due("ballot", x.letter(5 * i, 3), 16 + i);
+        }
+    }
+
+    /** "or there would be more than 90 letters": with 85 there are 90 then, with 86 to 90 more. */
+    private static void roomForJustFive(Check check) {
+        for (int letters = 84; letters <= 90; letters++) {
+            IssueHouse x = Play.readyAt(0);
+            x.start(1);
+            Play.fill(x, 0, letters);
+            if (letters <= 85) {
+                x.prolong(0);
+                check.due("letters()", x.letters(), letters + 5);
+                check.due("issuer(0, 1)", x.issuer(0, 1), 1);
+                continue;
+            }
+            check.badState("prolong(0) with " + letters, () -> x.prolong(0));
+            check.due("letters()", x.letters(), letters);
+            check.due("issuer(0, 1)", x.issuer(0, 1), 0);
+            check.due("issuer(0, 0)", x.issuer(0, 0), 1);
+        }
+    }
+
+    /** "begins at its clock, or one above that row's mark, whichever is later", the mark being 60999. */
+    private static void behindTheMark(Check check) {
+        long[] clocks = {0, 60998, 60999, 61000, 61001};
+        long[] firsts = {61000, 61000, 61000, 61000, 61001};
+        for (int j = 0; j < clocks.length; j++) {
+            IssueHouse x = Play.readyAt(1000);
+            x.clock(0, clocks[j]);
+            Play.prolong(x, 0);
+            check.due("issuer(0, 4) with the clock at " + clocks[j], x.issuer(0, 4), firsts[j] + 59999);
+            x.clock(0, firsts[j] - 5000);
+            check.due("next(0) at the span's first", x.next(0), Play.number(firsts[j], 0, 0));
+        }
+    }
+
+    /** A NO while accepting makes a PROLONG fail too, and its promised number counts for the next one. */
+    private static void numbersHoldForProlongingToo(Check check) {
+        IssueHouse x = Play.readyAt(1000);
+        Play.skip(x, 7, 4);
+        x.prolong(0);
+        Play.promises(x, 0, 1, 2);
+        x.start(7);
+        x.deliver(7);
+        x.deliver(2);
+        check.due("the answer to ACCEPT", x.letter(11, 0), Play.NO);
+        check.due("its promised number", x.letter(11, 5), 47);
+        check.due("issuer(0, 1)", x.issuer(0, 1), 2);
+        x.deliver(11);
+        check.due("issuer(0, 1)", x.issuer(0, 1), 0);
+        check.due("issuer(0, 0)", x.issuer(0, 0), 1);
+        check.due("issuer(0, 4)", x.issuer(0, 4), 60999);
+        check.due("issuer(0, 6)", x.issuer(0, 6), 1);
+        Play.clear(x);
+        x.prolong(0);
+        check.due("the next ballot", x.letter(0, 3), 48);
     }
 }

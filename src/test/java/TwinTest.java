@@ -6,6 +6,11 @@ public final class TwinTest {
         everyKindIsDoubled(check);
         acceptIsDoubledWhole(check);
         promiseIsDoubledWhole(check);
+        noSuchLetter(check);
+        roomForJustOne(check);
+        theOnlyLetter(check);
+        aTwinGoesToTheEnd(check);
+        aTwinDoesWhatItsLetterDoes(check);
         check.end();
     }
 
@@ -83,5 +88,76 @@ public final class TwinTest {
         check.due("seat(0, 0)", x.seat(0, 0), 0);
         check.due("seat(0, 1)", x.seat(0, 1), 1);
         check.due("seat(0, 2)", x.seat(0, 2), 60999);
+    }
+
+    /** "IndexOutOfBoundsException likewise", without letters, with some and with 90. */
+    private static void noSuchLetter(Check check) {
+        for (int many : new int[] {0, 5, 90}) {
+            IssueHouse x = new IssueHouse();
+            if (many > 0) {
+                x.start(0);
+                Play.fill(x, 0, many);
+            }
+            for (int k : new int[] {Integer.MIN_VALUE, -1, many, many + 1, Integer.MAX_VALUE}) {
+                check.outOfBounds("twin(" + k + ") with " + many, () -> x.twin(k));
+            }
+            check.due("letters()", x.letters(), many);
+        }
+    }
+
+    /** "IllegalStateException, when there are 90": letters of every kind, and not with 89. */
+    private static void roomForJustOne(Check check) {
+        for (int k = 0; k < Play.BUSY_LETTERS; k++) {
+            int at = k;
+            IssueHouse x = new IssueHouse();
+            Play.crowded(x, 89);
+            x.twin(at);
+            check.due("letters()", x.letters(), 90);
+            check.due("letter(89, 0)", x.letter(89, 0), x.letter(at, 0));
+            check.badState("twin(" + at + ") with 90", () -> x.twin(at));
+            check.due("letters()", x.letters(), 90);
+            x.lose(89);
+            x.twin(88);
+            check.due("letters(), having had room again", x.letters(), 90);
+        }
+    }
+
+    private static void theOnlyLetter(Check check) {
+        IssueHouse x = new IssueHouse();
+        x.start(6);
+        Play.clearBut(x, 1);
+        x.twin(0);
+        check.due("letters()", x.letters(), 2);
+        check.letter(x, 0, Play.PREPARE, 6, 4, 14, -1, -1);
+        check.letter(x, 1, Play.PREPARE, 6, 4, 14, -1, -1);
+    }
+
+    /** "is sent once more": letters lie "in the order in which they were sent". */
+    private static void aTwinGoesToTheEnd(Check check) {
+        IssueHouse x = new IssueHouse();
+        x.start(0);
+        x.twin(0);
+        x.twin(4);
+        x.twin(2);
+        int[] nodes = {0, 1, 2, 3, 4, 0, 4, 2};
+        for (int k = 0; k < 8; k++) {
+            check.letter(x, k, Play.PREPARE, 0, nodes[k], 8, -1, -1);
+        }
+    }
+
+    /** "A letter like letter k": with the letter itself lost, its twin, the last one, does the same. */
+    private static void aTwinDoesWhatItsLetterDoes(Check check) {
+        for (int k = 0; k < Play.BUSY_LETTERS; k++) {
+            int at = k;
+            Same.runs(check, "the twin of letter " + at, x -> {
+                Play.busy(x);
+                x.twin(at);
+                x.lose(at);
+                x.deliver(Play.BUSY_LETTERS - 1);
+            }, x -> {
+                Play.busy(x);
+                x.deliver(at);
+            });
+        }
     }
 }
