@@ -20,6 +20,7 @@ public final class AtIssuerTest {
         lettersToOneNotConcernedAreLost(check);
         whatIsCountedTwiceIsLost(check);
         aSecondNoSaysNothing(check);
+        greatestBallotInAnyOrder(check);
         check.end();
     }
 
@@ -451,5 +452,15 @@ public final class AtIssuerTest {
         Play.clear(x);
         x.start(0);
         return x.letter(0, 3);
+    }
+
+    /** "of each seat, of these three nodes' rows that with the greatest ballot", be it told first or last. */
+    private static void greatestBallotInAnyOrder(Check check) {
+        for (int[] order : Play.ORDERS) {
+            IssueHouse x = new IssueHouse();
+            Play.threeRows(x, order);
+            Play.startWith(x, 0, 0, 1, 2);
+            check.issuer(x, 0, 1, 0, 0, 2, 120999, -1, 0, 0);
+        }
     }
 }

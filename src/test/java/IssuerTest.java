@@ -102,14 +102,14 @@ public final class IssuerTest {
     private static void notReadyOrGaveNone(Check check) {
         IssueHouse x = new IssueHouse();
         Play.busy(x);
-        check.issuer(x, 0, 1, 0, 0, 1, 60999, 1000, 0, 1);
+        check.issuer(x, 0, 1, 0, 0, 1, 69999, 10000, 0, 1);
         check.issuer(x, 1, 0, 0, -1, -1, -1, -1, 1, 0);
         check.issuer(x, 4, 0, 2, -1, -1, -1, -1, 0, 0);
         check.issuer(x, 6, 0, 1, -1, -1, -1, -1, 0, 0);
         x.deliver(Play.BUSY_THIRD_YES);
-        check.issuer(x, 4, 1, 0, 1, 1, 61999, -1, 0, 0);
+        check.issuer(x, 4, 1, 0, 1, 1, 73999, -1, 0, 0);
         x.next(4);
-        check.issuer(x, 4, 1, 0, 1, 1, 61999, 2000, 0, 1);
+        check.issuer(x, 4, 1, 0, 1, 1, 73999, 14000, 0, 1);
     }
 
     /** "how many attempts failed": by NO, for want of a seat and for want of a span, not by a crash. */

@@ -29,12 +29,12 @@ public final class LookTest {
         }
         busy.only("letter(2, 4)", 1, x -> x.letter(2, 4));
         busy.only("letter(6, 5)", 22, x -> x.letter(6, 5));
-        long[] told = {1, 0, 0, 1, 60999, 1000, 0, 1};
+        long[] told = {1, 0, 0, 1, 69999, 10000, 0, 1};
         for (int what = 0; what < 8; what++) {
             int w = what;
             busy.only("issuer(0, " + w + ")", told[w], x -> x.issuer(0, w));
         }
-        busy.only("seat(0, 2)", 60999, x -> x.seat(0, 2));
+        busy.only("seat(0, 2)", 69999, x -> x.seat(0, 2));
         busy.only("seat(7, 2)", -1, x -> x.seat(7, 2));
         busy.only("part(8388608, 0)", 1, x -> x.part(8388608, 0));
     }

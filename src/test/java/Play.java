@@ -13,6 +13,9 @@ final class Play {
     static final int BUSY_NO = 6;
     static final int BUSY_THIRD_YES = 7;
 
+    /** All orders of the nodes 0 to 2. */
+    static final int[][] ORDERS = {{0, 1, 2}, {0, 2, 1}, {1, 0, 2}, {1, 2, 0}, {2, 0, 1}, {2, 1, 0}};
+
     private Play() {
     }
 
@@ -99,6 +102,19 @@ final class Play {
         x.deliver(2);
     }
 
+    /**
+     * Three rows of seat 0, each known to one of the nodes 0 to 2 alone: the greatest ballot's is at the
+     * last of them. The marks, 68999, 64999 and 60999, fall as the ballots rise. All clocks are 0 then.
+     */
+    static void threeRows(IssueHouse x, int... nodes) {
+        long[] clocks = {9000, 5000, 1000};
+        for (int j = 0; j < 3; j++) {
+            x.clock(0, clocks[j]);
+            startInVain(x, 0, nodes[j], 3, 4, nodes[j]);
+        }
+        x.clock(0, 0);
+    }
+
     /** Attempts of which no node hears, so that later ballots are higher. */
     static void skip(IssueHouse x, int issuer, int attempts) {
         for (int j = 0; j < attempts; j++) {
@@ -134,17 +150,19 @@ final class Play {
     }
 
     /**
-     * A new object's first calls, up to where all sorts of things are under way. Issuer 0 is ready and
-     * gave a number; 1 failed and knows of NUMBERS; 4 is accepting and counted two YES; 6 is preparing
-     * and counted two PROMISE; node 4 is down. Eight letters lie there: PREPARE of 4 to nodes 3 and 4,
-     * ACCEPT to node 4, PREPARE of 6 to nodes 3 and 4, a third PROMISE for 6, NO and a third YES for 4.
+     * A new object's first calls, up to where all sorts of things are under way. The clock of issuer i
+     * is 10000 + 1000 * i. Issuer 0 is ready and gave a number; 1 failed and knows of NUMBERS; 4 is
+     * accepting and counted two YES; 6 is preparing and counted two PROMISE; node 4 is down. Eight letters
+     * lie there: PREPARE of 4 to nodes 3 and 4, ACCEPT to node 4, PREPARE of 6 to nodes 3 and 4, a third
+     * PROMISE for 6, NO and a third YES for 4.
      */
     static void busy(IssueHouse x) {
-        x.clock(0, 1000);
+        for (int i = 0; i < 8; i++) {
+            x.clock(i, 10000 + 1000 * i);
+        }
         start(x, 0);
         x.next(0);
         skip(x, 6, 1);
-        x.clock(4, 2000);
         x.start(4);
         promises(x, 0, 1, 2);
         x.deliver(2);

@@ -13,7 +13,7 @@ final class Same {
 
     private static final int ISSUERS = 8;
     private static final int MOST_DELIVERIES = 110;
-    private static final int LOOKS = 5 + ISSUERS;
+    private static final int LOOKS = 5 + 2 * ISSUERS;
 
     private final IssueHouse x = new IssueHouse();
     private final List<String> answers = new ArrayList<>();
@@ -99,7 +99,7 @@ final class Same {
                 all();
                 break;
             default:
-                goesOn(look - 5);
+                goesOn((look - 5) % ISSUERS, look - 5 >= ISSUERS);
                 break;
         }
     }
@@ -153,8 +153,14 @@ final class Same {
         }
     }
 
-    /** Tells an issuer's clock, a, NUMBERS and what it gave, and the nodes' promised numbers. */
-    private void goesOn(int i) {
+    /**
+     * Tells an issuer's clock, a, NUMBERS and what it gave, and the nodes' promised numbers. One that is
+     * at an attempt begins no other one before a crash.
+     */
+    private void goesOn(int i, boolean behindACrash) {
+        if (behindACrash) {
+            x.crash(i);
+        }
         ask("next(" + i + ")", y -> y.next(i));
         ask("batch(" + i + ", 1000)", y -> y.batch(i, 1000));
         Play.clear(x);

@@ -11,6 +11,7 @@ public final class SeatTest {
         everySeat(check);
         withoutAHolder(check);
         aMarkAtTheEndOfTime(check);
+        greatestBallotAtAnyNode(check);
         check.end();
     }
 
@@ -147,5 +148,18 @@ public final class SeatTest {
     private static void aMarkAtTheEndOfTime(Check check) {
         IssueHouse x = Play.readyAt(Play.LATEST - 59999);
         check.seat(x, 0, 0, 1, Play.LATEST);
+    }
+
+    /** "the seat's row with the greatest ballot among all nodes that are up", be it at the first or the last. */
+    private static void greatestBallotAtAnyNode(Check check) {
+        for (int[] order : Play.ORDERS) {
+            IssueHouse x = new IssueHouse();
+            Play.threeRows(x, order);
+            check.seat(x, 0, 0, 1, 60999);
+            x.node(order[2], false);
+            check.seat(x, 0, 0, 1, 64999);
+            x.node(order[1], false);
+            check.seat(x, 0, 0, 1, 68999);
+        }
     }
 }
